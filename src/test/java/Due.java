@@ -1,0 +1,63 @@
+import java.util.function.Consumer;
+import java.util.function.LongSupplier;
+
+/** Counts the answers that a test asks for, and prints those that are not as due. */
+final class Due {
+    static final int NOTHING = BuildingPoints.NOTHING;
+    static final Class<IndexOutOfBoundsException> INDEX = IndexOutOfBoundsException.class;
+    static final Class<IllegalArgumentException> ARGUMENT = IllegalArgumentException.class;
+    static final Class<IllegalStateException> STATE = IllegalStateException.class;
+
+    private final String test;
+    private int asked;
+    private int wrong;
+
+    Due(String test) {
+        this.test = test;
+    }
+
+    void is(String what, Object got, Object want) {
+        asked++;
+        if (!got.equals(want)) {
+            wrong++;
+            System.out.println(test + ": " + what + " answered " + got + ", due is " + want);
+        }
+    }
+
+    void is(String what, boolean got) {
+        is(what, got, true);
+    }
+
+    /** The answer of each call, in their order. */
+    void are(String what, long[] want, LongSupplier... calls) {
+        for (int i = 0; i < calls.length; i++) {
+            is(what + ", answer " + i, calls[i].getAsLong(), want[i]);
+        }
+    }
+
+    /** The call throws an exception of this very class, and nothing that can be asked differs then. */
+    void refuses(String what, Class<? extends RuntimeException> want, Consumer<BuildingPoints> before,
+            Consumer<BuildingPoints> call) {
+        BuildingPoints x = new BuildingPoints();
+        before.accept(x);
+        String pictureBefore = Picture.of(x);
+        is(what + " throws", thrownBy(() -> call.accept(x)), want.getName());
+        is(what + " leaves", Picture.of(x), pictureBefore);
+    }
+
+    static String thrownBy(Runnable call) {
+        try {
+            call.run();
+        } catch (RuntimeException e) {
+            return e.getClass().getName();
+        }
+        return "nothing";
+    }
+
+    void close() {
+        System.out.println(test + ": " + asked + " answers, " + wrong + " not as due");
+        if (wrong != 0) {
+            System.exit(1);
+        }
+    }
+}
