@@ -1,4 +1,5 @@
 import java.util.function.Consumer;
+import java.util.function.Function;
 import java.util.function.LongSupplier;
 
 /** Counts the answers that a test asks for, and prints those that are not as due. */
@@ -9,6 +10,7 @@ final class Due {
     static final Class<IllegalStateException> STATE = IllegalStateException.class;
 
     private final String test;
+    private String sentence = "";
     private int asked;
     private int wrong;
 
@@ -16,11 +18,16 @@ final class Due {
         this.test = test;
     }
 
+    /** The words of the document that ask for the answers from here on, and where they stand in it. */
+    void sentence(String where, String words) {
+        sentence = where + ", \"" + words + "\": ";
+    }
+
     void is(String what, Object got, Object want) {
         asked++;
         if (!got.equals(want)) {
             wrong++;
-            System.out.println(test + ": " + what + " answered " + got + ", due is " + want);
+            System.out.println(test + ": " + sentence + what + " answered " + got + ", due is " + want);
         }
     }
 
@@ -35,14 +42,28 @@ final class Due {
         }
     }
 
-    /** The call throws an exception of this very class, and nothing that can be asked differs then. */
+    /** The call throws nothing. */
+    void takes(String what, Consumer<BuildingPoints> before, Consumer<BuildingPoints> call) {
+        BuildingPoints x = made(before);
+        is(what + " throws", thrownBy(() -> call.accept(x)), "nothing");
+    }
+
+    /** The call throws an exception of this very class, and no later call answers otherwise for it. */
     void refuses(String what, Class<? extends RuntimeException> want, Consumer<BuildingPoints> before,
             Consumer<BuildingPoints> call) {
+        BuildingPoints x = made(before);
+        is(what + " throws", thrownBy(() -> call.accept(x)), want.getName());
+        for (Function<BuildingPoints, String> later : Later.ROWS) {
+            BuildingPoints refused = made(before);
+            thrownBy(() -> call.accept(refused));
+            is(what + " leaves", later.apply(refused), later.apply(made(before)));
+        }
+    }
+
+    private static BuildingPoints made(Consumer<BuildingPoints> before) {
         BuildingPoints x = new BuildingPoints();
         before.accept(x);
-        String pictureBefore = Picture.of(x);
-        is(what + " throws", thrownBy(() -> call.accept(x)), want.getName());
-        is(what + " leaves", Picture.of(x), pictureBefore);
+        return x;
     }
 
     static String thrownBy(Runnable call) {
